@@ -411,7 +411,7 @@ public final class TimingLights {
         }
 
         int lampLoss(int colour) {
-            return isColour(colour) ? cells[AGE + colour] * cells[SETTING + RATE] / 100 : 0;
+            return colour >= 0 && colour < COLOURS ? cells[AGE + colour] * cells[SETTING + RATE] / 100 : 0;
         }
 
         int shots() {
@@ -515,7 +515,8 @@ public final class TimingLights {
         static boolean isOff(Reel reel, int place) {
             int most = 0;
             for (int colour = 0; colour < COLOURS; colour++) {
-                most = Math.max(most, Math.abs(offNow(reel, place, colour)));
+                int trim = reel.read(Reel.TRIM + colour);
+                most = Math.max(most, Math.abs(offWith(reel, place, colour, trim)));
             }
             return most > reel.read(Reel.SETTING + SLACK);
         }
@@ -693,26 +694,25 @@ public final class TimingLights {
 
         /** A print whatever the age of the lamps. */
         static int runPrinter(Reel reel) {
+            int bad = 0;
             for (int place = 0; place < reel.shots() && place < MOST_SHOTS; place++) {
-                takeAnswer(reel, place);
+                for (int colour = 0; colour < COLOURS; colour++) {
+                    int off = Views.offWith(reel, place, colour, reel.read(Reel.TRIM + colour));
+                    reel.writeShot(place, Reel.ANSWER + colour, off);
+                }
+                reel.writeShot(place, Reel.HAS_ANSWER, 1);
+                bad += Views.isBad(reel, place) ? 1 : 0;
             }
             int hours = hoursOfPrint(reel);
             for (int colour = 0; colour < COLOURS; colour++) {
                 reel.write(Reel.AGE + colour, reel.read(Reel.AGE + colour) + hours);
             }
             reel.write(Reel.PRINTS, reel.read(Reel.PRINTS) + 1);
-            return Integer.bitCount(Views.setOf(reel, Views.BAD));
+            return bad;
         }
 
         private static int hoursOfPrint(Reel reel) {
             return (Views.feetBefore(reel, reel.shots()) + 99) / 100;
-        }
-
-        private static void takeAnswer(Reel reel, int place) {
-            for (int colour = 0; colour < COLOURS; colour++) {
-                reel.writeShot(place, Reel.ANSWER + colour, Views.offNow(reel, place, colour));
-            }
-            reel.writeShot(place, Reel.HAS_ANSWER, 1);
         }
 
         static int correctShot(Reel reel, int place) {

@@ -95,6 +95,15 @@ public final class ChangesTest {
         Check.due("3: place 21", x.shot(21, 5, 1, 1, 1), TimingLights.NO_SUCH);
         Check.due("3: value ahead of too many", x.shot(20, 0, 1, 1, 1), TimingLights.BAD_VALUE);
         Check.due("3: the last one", x.of(19, 1), 95);
+        TimingLights y = new TimingLights();
+        for (int shot = 1; shot <= 20; shot++) {
+            Check.due("3: in front of all", y.shot(0, shot, shot, 2 * shot, 25), shot);
+        }
+        for (int place = 0; place < 20; place++) {
+            Check.due("3: length behind those in front", y.of(place, 0), 20 - place);
+            Check.due("3: red behind those in front", y.inColour(place, 0, 0), 20 - place);
+            Check.due("3: green behind those in front", y.inColour(place, 1, 0), 40 - 2 * place);
+        }
     }
 
     private static void promise3UsedPlace() {
@@ -236,6 +245,8 @@ public final class ChangesTest {
         x.takeOut(0);
         Check.due("8: the last of nineteen", x.split(18, 1), 20);
         Check.due("8: the twentieth", x.of(19, 0), 4);
+        Check.due("8: its density", x.inColour(19, 2, 0), 25);
+        Check.due("8: its light", x.inColour(19, 1, 2), 25);
         TimingLights y = Check.reel(1, 99);
         Check.due("8: 98 feet", y.split(0, 98), 2);
         checkLengths("8: of 99", y, 98, 1);
@@ -259,6 +270,10 @@ public final class ChangesTest {
         Check.due("9: other blue", x.join(1), TimingLights.NOT_POSSIBLE);
         Check.due("9: 100 feet", x.join(3), TimingLights.NOT_POSSIBLE);
         Check.due("9: errors leave answers", x.count(4), 0b11111);
+        for (int colour = 0; colour < 3; colour++) {
+            x.wish(1, colour, -1 - colour);
+            x.light(1, colour, 40 + colour);
+        }
         Check.due("9: 99 feet", x.join(0), 99);
         checkLengths("9: joined", x, 99, 1, 98, 2);
         Check.due("9: the first one's light", x.inColour(0, 1, 2), 30);
@@ -302,6 +317,11 @@ public final class ChangesTest {
         Check.due("10: the answer is taken ahead of the age", x.inColour(1, 1, 5), 100);
         Check.due("10: prints", x.count(2), 4);
         Check.due("10: loss", x.ofLamp(0, 1), 3);
+        TimingLights y = Check.reel(3, 10);
+        y.set(TimingLights.SLACK, 0);
+        Check.due("10: none is bad without slack", y.print(), 0);
+        y.light(1, 1, 24);
+        Check.due("10: one is bad without slack", y.print(), 1);
     }
 
     private static void promise10AgeOfLamps() {
@@ -327,6 +347,18 @@ public final class ChangesTest {
         Check.due("10: not an hour more", x.print(), TimingLights.NOT_POSSIBLE);
         Check.due("10: the lamp out", x.lamp(2), 999);
         Check.due("10: with a new lamp", x.print(), 0);
+        for (int old = 0; old < 3; old++) {
+            TimingLights y = Check.reel(20, 99);
+            y.set(TimingLights.RATE, 0);
+            for (int prints = 0; prints < 49; prints++) {
+                y.print();
+            }
+            y.lamp((old + 1) % 3);
+            y.lamp((old + 2) % 3);
+            Check.due("10: too old is lamp " + old, y.print(), TimingLights.NOT_POSSIBLE);
+            y.lamp(old);
+            Check.due("10: new is lamp " + old, y.print(), 0);
+        }
     }
 
     private static void promise11Correct() {
@@ -426,6 +458,8 @@ public final class ChangesTest {
         x.print();
         x.print();
         Check.due("13: 20 at most", x.card(), 60);
+        Check.due("13: the prints as before", x.count(2), 6);
+        Check.due("13: the ages as before", x.ofLamp(1, 0), 50);
         Check.due("13: loss", x.ofLamp(0, 1), 30);
         Check.due("13: trim", x.ofLamp(0, 2), 40);
     }

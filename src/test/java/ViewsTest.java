@@ -135,6 +135,13 @@ public final class ViewsTest {
         Check.due("18: 950 hundredths", x.ofLamp(1, 1), 9);
         x.set(TimingLights.RATE, 0);
         Check.due("18: nothing", x.ofLamp(1, 1), 0);
+        TimingLights y = Check.reel(10, 90);
+        y.print();
+        y.set(TimingLights.RATE, 11);
+        Check.due("18: 99 hundredths", y.ofLamp(0, 1), 0);
+        y.print();
+        y.set(TimingLights.RATE, 50);
+        Check.due("18: 900 hundredths", y.ofLamp(0, 1), 9);
     }
 
     private static void promise19Count() {
@@ -181,6 +188,11 @@ public final class ViewsTest {
         Check.due("19: off by more", y.count(7), 1);
         y.light(0, 1, 23);
         Check.due("19: off by more below", y.count(7), 1);
+        y.set(TimingLights.SLACK, 0);
+        y.light(0, 1, 25);
+        Check.due("19: off by nothing, without slack", y.count(7), 0);
+        y.light(0, 1, 24);
+        Check.due("19: off, without slack", y.count(7), 1);
     }
 
     private static void promise19FullSets() {

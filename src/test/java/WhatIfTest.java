@@ -101,6 +101,20 @@ public final class WhatIfTest {
         Check.due("22: not within 500", x.lasts(1), TimingLights.NONE);
         x.wish(0, 1, -2);
         Check.due("22: below 0 now", x.lasts(1), 0);
+        TimingLights z = Check.reel(9, 99);
+        z.print();
+        z.wish(4, 2, 10);
+        z.trim(2, -3);
+        Check.due("22: 12 points more", z.lasts(2), 121);
+        z.takeOut(4);
+        z.shot(0, 1, 25, 25, 0);
+        while (z.count(0) > 1) {
+            z.takeOut(1);
+        }
+        z.trim(2, 0);
+        Check.due("22: in 501 hours", z.lasts(2), TimingLights.NONE);
+        z.print();
+        Check.due("22: in 500 hours, a print later", z.lasts(2), 500);
         TimingLights y = Check.reel(20, 99);
         y.set(TimingLights.RATE, 1);
         for (int prints = 0; prints < 49; prints++) {
@@ -163,6 +177,13 @@ public final class WhatIfTest {
         y.wish(1, 0, -10);
         Check.due("23: of -15 and 15 the one above 0", y.bestTrim(0, 0), 35);
         Check.due("23: one of them is off", y.bestTrim(0, 1), 15);
+        TimingLights z = new TimingLights();
+        z.shot(0, 10, 25, 26, 24);
+        z.shot(1, 10, 25, 26, 24);
+        z.shot(2, 10, 15, 26, 24);
+        Check.due("23: 0, though below is better than above", z.bestTrim(0, 0), 20);
+        Check.due("23: 1", z.bestTrim(1, 0), 21);
+        Check.due("23: -1", z.bestTrim(2, 0), 19);
     }
 
     private static void promise24PrintsNeeded() {
@@ -189,6 +210,14 @@ public final class WhatIfTest {
         z.trim(0, -10);
         z.wish(0, 0, -10);
         Check.due("24: from far below", z.printsNeeded(), 5);
+        TimingLights w = new TimingLights();
+        w.shot(0, 10, 25, 24, 24);
+        w.light(0, 0, 28);
+        w.set(TimingLights.STEP, 4);
+        w.set(TimingLights.RATE, 11);
+        Check.due("24: 209 hundredths at the 20th", w.printsNeeded(), 20);
+        w.set(TimingLights.RATE, 10);
+        Check.due("24: not within 20", w.printsNeeded(), TimingLights.NONE);
     }
 
     private static void promise24Bounds() {
