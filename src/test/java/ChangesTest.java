@@ -341,9 +341,7 @@ public final class ChangesTest {
         Check.due("10: 999 hours", x.print(), 0);
         Check.due("10: age 999", x.ofLamp(2, 0), 999);
         Check.due("10: age 19", x.ofLamp(1, 0), 19);
-        while (x.count(0) > 1) {
-            x.takeOut(0);
-        }
+        Reels.takeOutFirst(x, 18);
         Check.due("10: not an hour more", x.print(), TimingLights.NOT_POSSIBLE);
         Check.due("10: the lamp out", x.lamp(2), 999);
         Check.due("10: with a new lamp", x.print(), 0);

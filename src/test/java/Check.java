@@ -1,5 +1,6 @@
-/** Counts answers, prints every one that is not due, and ends a test with the exit code that tells. */
+/** Counts answers, prints those that are not due, and ends a test with the exit code that tells. */
 final class Check {
+    private static final int MOST_TOLD = 200;
     private static int asked = 0;
     private static int wrong = 0;
 
@@ -10,7 +11,9 @@ final class Check {
         asked++;
         if (got != want) {
             wrong++;
-            System.out.println(call + " answered " + got + ", due is " + want);
+            if (wrong <= MOST_TOLD) {
+                System.out.println(call + " answered " + got + ", due is " + want);
+            }
         }
     }
 

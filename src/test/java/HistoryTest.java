@@ -63,9 +63,7 @@ public final class HistoryTest {
         String[] changes = {"set", "shot", "takeOut", "light", "wish", "move", "split", "join", "print", "correct",
                 "correctAll", "card", "trim", "lamp", "restore"};
         for (int change = 0; change < changes.length; change++) {
-            while (x.count(13) > 0) {
-                x.undo();
-            }
+            Reels.undoAll(x);
             x.shot(0, 40, 25, 25, 25);
             x.shot(1, 40, 25, 25, 25);
             x.print();

@@ -2,7 +2,7 @@ import java.util.Random;
 
 /** Runs of 512 calls, drawn with fixed seeds, on an object and on the model: each answer is compared. */
 public final class RandomRunsTest {
-    private static final int RUNS = 600;
+    private static final int RUNS = 2500;
     private static final int CALLS = 512;
     private static final int[] EXTREMES = {-1, Integer.MIN_VALUE, Integer.MAX_VALUE, 100, 51, -21, 256};
 
@@ -11,7 +11,8 @@ public final class RandomRunsTest {
     private final Model m = new Model();
     private final int wild;
     private final int fill;
-    private int run;
+    private final int run;
+    private int calls;
 
     private RandomRunsTest(int run) {
         this.run = run;
@@ -22,13 +23,19 @@ public final class RandomRunsTest {
 
     public static void main(String[] args) {
         for (int run = 1; run <= RUNS; run++) {
-            RandomRunsTest test = new RandomRunsTest(run);
-            for (int call = 0; call < CALLS; call++) {
-                test.call();
-            }
-            test.compareAll();
+            new RandomRunsTest(run).run();
         }
         Check.end();
+    }
+
+    private void run() {
+        int looking = 50 + random.nextInt(CALLS - 50);
+        while (calls < looking) {
+            call();
+        }
+        while (calls < CALLS) {
+            look();
+        }
     }
 
     private int in(int least, int most) {
@@ -47,8 +54,12 @@ public final class RandomRunsTest {
         return random.nextInt(3) == 0 ? in(0, 50) : in(20, 30);
     }
 
+    /** What is answered behind the last call of all is free. */
     private void due(String call, int got, int want) {
-        Check.due("run " + run + ": " + call, got, want);
+        calls++;
+        if (calls <= CALLS) {
+            Check.due("run " + run + ": " + call, got, want);
+        }
     }
 
     private void call() {
@@ -243,25 +254,16 @@ public final class RandomRunsTest {
         }
     }
 
-    /** Everything that can be seen, and that again after each undo (the class counts no calls). */
-    private void compareAll() {
-        for (int undone = 0; undone <= 7; undone++) {
-            for (int what = 0; what < 14; what++) {
-                due("count(" + what + ") at the end", x.count(what), m.count(what));
-            }
-            for (int place = 0; place < m.count(0); place++) {
-                for (int what = 0; what < 5; what++) {
-                    due("of(" + place + ", " + what + ") at the end", x.of(place, what), m.of(place, what));
-                }
-                for (int cell = 0; cell < 18; cell++) {
-                    due("inColour(" + place + ", " + cell + ") at the end", x.inColour(place, cell % 3, cell / 3),
-                            m.inColour(place, cell % 3, cell / 3));
-                }
-            }
-            for (int cell = 0; cell < 9; cell++) {
-                due("ofLamp(" + cell + ") at the end", x.ofLamp(cell % 3, cell / 3), m.ofLamp(cell % 3, cell / 3));
-            }
+    /** Anything that can be seen, and now and then that of an earlier state. */
+    private void look() {
+        int kind = random.nextInt(30);
+        if (kind == 0) {
             due("undo() at the end", x.undo(), m.undo());
+        } else if (kind < 8) {
+            int what = random.nextInt(14);
+            due("count(" + what + ") at the end", x.count(what), m.count(what));
+        } else {
+            see(16 + random.nextInt(3));
         }
     }
 }

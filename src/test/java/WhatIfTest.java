@@ -107,10 +107,8 @@ public final class WhatIfTest {
         z.trim(2, -3);
         Check.due("22: 12 points more", z.lasts(2), 121);
         z.takeOut(4);
-        z.shot(0, 1, 25, 25, 0);
-        while (z.count(0) > 1) {
-            z.takeOut(1);
-        }
+        z.shot(8, 1, 25, 25, 0);
+        Reels.takeOutFirst(z, 8);
         z.trim(2, 0);
         Check.due("22: in 501 hours", z.lasts(2), TimingLights.NONE);
         z.print();
