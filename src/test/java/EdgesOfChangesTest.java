@@ -585,6 +585,17 @@ public final class EdgesOfChangesTest {
             Check.due("12: the last one's light", x.inColour(19, 1, 2), bad == 20 ? 25 : 26);
             Check.due("12: once more", x.correctAll(), 0);
         }
+        for (int place = 0; place < 3; place++) {
+            TimingLights x = Check.reel(3, 10);
+            x.light(place, 0, 50);
+            x.print();
+            x.takeOut(place);
+            Check.due("12: the bad one is out", x.correctAll(), 0);
+            Check.due("12: no points", x.count(6), 0);
+            x.undo();
+            x.undo();
+            Check.due("12: the bad one is in", x.correctAll(), 1);
+        }
     }
 
     // ---- 13: card
@@ -607,6 +618,17 @@ public final class EdgesOfChangesTest {
         Check.due("13: green", x.ofLamp(1, 2), 20);
         Check.due("13: blue", x.ofLamp(2, 2), 40);
         Check.due("13: the lamps stay", x.ofLamp(2, 0), 42);
+        Check.due("13: it is no print", x.count(2), 42);
+        Check.due("13: nor a correction", x.count(6), 0);
+        int[] rates = {0, 1, 2, 3, 50};
+        int[] trims = {0, 9, 19, 20, 20};
+        for (int i = 0; i < rates.length; i++) {
+            TimingLights old = oldLamp(2, 19);
+            old.print();
+            old.set(TimingLights.RATE, rates[i]);
+            Check.due("13: 999 hours, RATE " + rates[i], old.card(), trims[i] + 2 * (19 * rates[i] / 100));
+            Check.due("13: the trim then", old.ofLamp(2, 2), 20 + trims[i]);
+        }
     }
 
     // ---- 14: trim

@@ -41,7 +41,7 @@ public final class EdgesOfHistoryTest {
         }
         TimingLights used = Reels.full();
         Check.due("1: another object", used.count(0), 20);
-        Twins.same("1: objects share nothing", TimingLights::new, () -> {
+        Twins.alike("1: objects share nothing", TimingLights::new, () -> {
             TimingLights y = new TimingLights();
             Reels.full().save(0);
             return y;
@@ -113,7 +113,7 @@ public final class EdgesOfHistoryTest {
             Check.due("29: " + name + " is no error", change.applyAsInt(x) >= 0 ? 1 : 0, 1);
             Check.due("29: " + name + " is recorded", x.count(13), Math.min(6, changes + 1));
             Check.due("29: " + name + " undone", x.undo(), Math.min(6, changes + 1) - 1);
-            Twins.same("29: as before " + name, () -> {
+            Twins.alike("29: as before " + name, () -> {
                 TimingLights y = making.get();
                 change.applyAsInt(y);
                 y.undo();

@@ -479,6 +479,21 @@ public final class EdgesOfTermsTest {
         y.light(0, 0, 50);
         y.light(0, 1, 0);
         Check.due("they print alike beyond 0 and 50", y.of(0, 4), 0);
+        TimingLights z = new TimingLights();
+        z.shot(0, 10, 10, 10, 10);
+        z.shot(1, 10, 40, 40, 40);
+        z.set(TimingLights.JUMP, 1);
+        Check.due("densities that differ", z.print() * 10 + z.of(0, 4), 21);
+        for (int colour = 0; colour < 3; colour++) {
+            z.light(0, colour, 20);
+            z.light(1, colour, 50);
+            z.wish(0, colour, -10);
+            z.wish(1, colour, 10);
+        }
+        Check.due("they print alike, whatever lights, wishes and answers are", z.of(0, 4), 0);
+        Check.due("the set then", z.count(5), 0);
+        z.light(0, 1, 22);
+        Check.due("by 2 points in green", z.of(0, 4), 1);
     }
 
     /** "An object is used for at most 512 calls after it has been made" */

@@ -291,7 +291,7 @@ public final class EdgesOfTextsTest {
     }
 
     private static void asTheCall(String order, ToIntFunction<TimingLights> call) {
-        Twins.same("28: " + order, () -> carriedOut(order, 1), () -> {
+        Twins.alike("28: " + order, () -> carriedOut(order, 1), () -> {
             TimingLights x = Reels.rich();
             x.wipe();
             call.applyAsInt(x);
@@ -334,8 +334,8 @@ public final class EdgesOfTextsTest {
             Check.due("28: " + order, x.carryOut(), 2);
         }
         for (String order : bad) {
-            Twins.same("28: " + order, () -> carriedOut(order + ";l0r=9;p", 0), () -> carriedOut("c99", 0));
-            Twins.same("28: k;" + order, () -> carriedOut("k;" + order + ";p", 1), () -> carriedOut("k", 1));
+            Twins.alike("28: " + order, () -> carriedOut(order + ";l0r=9;p", 0), () -> carriedOut("c99", 0));
+            Twins.alike("28: k;" + order, () -> carriedOut("k;" + order + ";p", 1), () -> carriedOut("k", 1));
         }
         TimingLights none = typed("p;s1:1,1,1");
         Check.due("28: no shot to print", none.carryOut(), 0);
@@ -374,7 +374,7 @@ public final class EdgesOfTextsTest {
             Check.due("28: undone", x.undo(), 3);
             Check.due("28: as it was ahead of " + text, x.inColour(0, 0, 2), 17);
             Check.due("28: no print", x.count(2), 0);
-            Twins.same("28: all as it was ahead of " + text, () -> undone(text), () -> undone(""));
+            Twins.alike("28: all as it was ahead of " + text, () -> undone(text), () -> undone(""));
         }
     }
 

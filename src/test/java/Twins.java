@@ -18,19 +18,23 @@ final class Twins {
     /** The call answers what is due and changes nothing: not what is told, nor what undo and the slots give back. */
     static void unchanged(String name, Supplier<TimingLights> making, ToIntFunction<TimingLights> call, int due) {
         Check.due(name, call.applyAsInt(making.get()), due);
-        Supplier<TimingLights> called = () -> {
+        alike(name, () -> {
             TimingLights x = making.get();
             call.applyAsInt(x);
             return x;
-        };
+        }, making);
+    }
+
+    /** Both tell the same, whatever is undone, restored or carried out then. */
+    static void alike(String name, Supplier<TimingLights> making, Supplier<TimingLights> other) {
         for (int way = 0; way < WAYS_ON; way++) {
             int how = way;
-            Check.due(name + ", then " + way(way), goOn(called.get(), way), goOn(making.get(), way));
-            same(name + ", then " + way(way), () -> gone(called, how), () -> gone(making, how));
+            Check.due(name + ", then " + way(way), goOn(making.get(), way), goOn(other.get(), way));
+            same(name + ", then " + way(way), () -> gone(making, how), () -> gone(other, how));
         }
     }
 
-    /** Both tell the same. */
+    /** Both tell the same now. */
     static void same(String name, Supplier<TimingLights> making, Supplier<TimingLights> other) {
         int[] told = everything(making);
         int[] due = everything(other);
